@@ -23,8 +23,6 @@ public final class ByteProcessor {
     private static final int GO_LIMIT = 100000;
     private static final int FRAME_WORDS = 3;
     private static final int CALL_LENGTH = 2;
-    private static final int LAST_OP = 58;
-    private static final int SWITCH_OP = 41;
 
     /* Types: those of an image are 0 .. 17; the two that only verifying knows stand behind them. */
     private static final int INT = 0;
@@ -52,6 +50,57 @@ public final class ByteProcessor {
     private static final int TRAP_CAST = 4;
     private static final int TRAP_SIZE = 5;
     private static final int TRAP_INPUT = 6;
+
+    /* The INSTRUCTIONS; of the six JUMPS that compare an int with 0, and of the six with another, the first one. */
+    private static final int PUSH_BYTE = 0;
+    private static final int PUSH_WORD = 1;
+    private static final int PUSH_NULL = 2;
+    private static final int LOAD = 3;
+    private static final int STORE = 4;
+    private static final int POP = 5;
+    private static final int DUP = 6;
+    private static final int SWAP = 7;
+    private static final int PLUS = 8;
+    private static final int MINUS = 9;
+    private static final int TIMES = 10;
+    private static final int DIVIDE = 11;
+    private static final int REST = 12;
+    private static final int AND = 13;
+    private static final int OR = 14;
+    private static final int XOR = 15;
+    private static final int LEFT = 16;
+    private static final int RIGHT = 17;
+    private static final int RIGHT_UNSIGNED = 18;
+    private static final int NEGATE = 19;
+    private static final int TO_BYTE = 20;
+    private static final int TO_CHAR = 21;
+    private static final int TO_SHORT = 22;
+    private static final int INC = 23;
+    private static final int JUMP = 24;
+    private static final int JUMP_IF_ZERO = 25;
+    private static final int JUMP_IF_INTS = 31;
+    private static final int JUMP_IF_NULL = 37;
+    private static final int JUMP_IF_NOT_NULL = 38;
+    private static final int JUMP_IF_SAME = 39;
+    private static final int JUMP_IF_OTHER = 40;
+    private static final int SWITCH = 41;
+    private static final int NEW = 42;
+    private static final int NEW_ROW = 43;
+    private static final int SIZE = 44;
+    private static final int GET_AT = 45;
+    private static final int PUT_AT = 46;
+    private static final int GET = 47;
+    private static final int PUT = 48;
+    private static final int CALL_STATIC = 49;
+    private static final int CALL_TABLE = 50;
+    private static final int CALL_EXACTLY = 51;
+    private static final int RETURN = 52;
+    private static final int RETURN_VALUE = 53;
+    private static final int THROW = 54;
+    private static final int CAST = 55;
+    private static final int IS = 56;
+    private static final int IN = 57;
+    private static final int OUT = 58;
 
     /** Bytes of each INSTRUCTION; SWITCH has as many more as its k. */
     private static final int[] LENGTHS = {
@@ -760,8 +809,8 @@ public final class ByteProcessor {
 
         private int lengthAt(int place) {
             int op = byteAt(place);
-            int more = op == SWITCH_OP ? byteAt(place + 2) : 0;
-            return op > LAST_OP ? 1 : LENGTHS[op] + more;
+            int more = op == SWITCH ? byteAt(place + 2) : 0;
+            return op > OUT ? 1 : LENGTHS[op] + more;
         }
 
         private void walkInstructions() {
@@ -770,7 +819,7 @@ public final class ByteProcessor {
             }
             int place = 0;
             while (place < method.length) {
-                if (byteAt(place) > LAST_OP) {
+                if (byteAt(place) > OUT) {
                     refuse(1, place);
                     return;
                 }
@@ -786,23 +835,23 @@ public final class ByteProcessor {
         private boolean areOperands(int place) {
             int operand = byteAt(place + 1);
             switch (byteAt(place)) {
-                case 3:
-                case 4:
-                case 23:
+                case LOAD:
+                case STORE:
+                case INC:
                     return operand < method.locals;
-                case SWITCH_OP:
+                case SWITCH:
                     return byteAt(place + 2) >= 1 && byteAt(place + 2) <= 8;
-                case 42:
-                case 55:
-                case 56:
+                case NEW:
+                case CAST:
+                case IS:
                     return operand < image.classes;
-                case 47:
-                case 48:
+                case GET:
+                case PUT:
                     return image.fieldType(operand, byteAt(place + 2)) != NONE;
-                case 49:
+                case CALL_STATIC:
                     return isMethod(operand, true);
-                case 50:
-                case 51:
+                case CALL_TABLE:
+                case CALL_EXACTLY:
                     return isMethod(operand, false);
                 default:
                     return true;
@@ -838,14 +887,14 @@ public final class ByteProcessor {
 
         private int targetsAt(int place) {
             int op = byteAt(place);
-            if (op == SWITCH_OP) {
+            if (op == SWITCH) {
                 return 1 + byteAt(place + 2);
             }
-            return op >= 24 && op < SWITCH_OP ? 1 : 0;
+            return op >= JUMP && op < SWITCH ? 1 : 0;
         }
 
         private int targetOf(int place, int i) {
-            return byteAt(byteAt(place) == SWITCH_OP ? place + 3 + i : place + 1);
+            return byteAt(byteAt(place) == SWITCH ? place + 3 + i : place + 1);
         }
 
         private void setFirstState() {
@@ -906,7 +955,7 @@ public final class ByteProcessor {
         }
 
         private int wordsTaken(int op, int place) {
-            if (op >= 49 && op <= 51) {
+            if (isCall(op)) {
                 Method called = image.methodAt(byteAt(place + 1));
                 return called == null ? 0 : called.wordsTaken();
             }
@@ -920,10 +969,10 @@ public final class ByteProcessor {
                 }
             }
             switch (op) {
-                case 3: return locals[byteAt(place + 1)] != NOTHING;
-                case 23: return locals[byteAt(place + 1)] == INT;
-                case 52: return method.result == NONE;
-                case 53: return method.result != NONE;
+                case LOAD: return locals[byteAt(place + 1)] != NOTHING;
+                case INC: return locals[byteAt(place + 1)] == INT;
+                case RETURN: return method.result == NONE;
+                case RETURN_VALUE: return method.result != NONE;
                 default: return true;
             }
         }
@@ -946,37 +995,41 @@ public final class ByteProcessor {
         private int wanted(int op, int place, int i) {
             int operand = byteAt(place + 1);
             switch (op) {
-                case 4:
-                case 5:
-                case 6:
-                case 7:
+                case STORE:
+                case POP:
+                case DUP:
+                case SWAP:
                     return ANY;
-                case 37:
-                case 38:
-                case 39:
-                case 40:
+                case JUMP_IF_NULL:
+                case JUMP_IF_NOT_NULL:
+                case JUMP_IF_SAME:
+                case JUMP_IF_OTHER:
                     return REFERENCE;
-                case 44:
-                case 45:
-                case 46:
+                case SIZE:
+                case GET_AT:
+                case PUT_AT:
                     return i == 0 ? ROW : INT;
-                case 47:
-                case 48:
+                case GET:
+                case PUT:
                     return i == 0 ? FIRST_CLASS + operand : image.fieldType(operand, byteAt(place + 2));
-                case 49:
-                case 50:
-                case 51:
-                    Method called = image.methodAt(operand);
-                    return called == null ? ANY : called.typeTaken(i);
-                case 53:
+                case CALL_STATIC:
+                case CALL_TABLE:
+                case CALL_EXACTLY:
+                    return wantedByCall(operand, i);
+                case RETURN_VALUE:
                     return method.result == NONE ? ANY : method.result;
-                case 54:
-                case 55:
-                case 56:
+                case THROW:
+                case CAST:
+                case IS:
                     return OBJECT;
                 default:
                     return INT;
             }
+        }
+
+        private int wantedByCall(int m, int i) {
+            Method called = image.methodAt(m);
+            return called == null ? ANY : called.typeTaken(i);
         }
 
         private void give(int type) {
@@ -990,25 +1043,25 @@ public final class ByteProcessor {
         private void giveTypes(int op, int place) {
             int operand = byteAt(place + 1);
             int first = types[size];
-            if (op == 2) {
+            if (op == PUSH_NULL) {
                 give(NULL);
-            } else if (op == 3) {
+            } else if (op == LOAD) {
                 give(locals[operand]);
-            } else if (op == 4) {
+            } else if (op == STORE) {
                 locals[operand] = first;
-            } else if (op == 6) {
+            } else if (op == DUP) {
                 give(first);
                 give(first);
-            } else if (op == 7) {
+            } else if (op == SWAP) {
                 give(types[size + 1]);
                 give(first);
-            } else if (op == 42 || op == 55) {
+            } else if (op == NEW || op == CAST) {
                 give(FIRST_CLASS + operand);
-            } else if (op == 43) {
+            } else if (op == NEW_ROW) {
                 give(ROW);
-            } else if (op == 47) {
+            } else if (op == GET) {
                 give(image.fieldType(operand, byteAt(place + 2)));
-            } else if (op >= 49 && op <= 51) {
+            } else if (isCall(op)) {
                 Method called = image.methodAt(operand);
                 if (called != null && called.result != NONE) {
                     give(called.result);
@@ -1018,16 +1071,48 @@ public final class ByteProcessor {
             }
         }
 
+        private static boolean isCall(int op) {
+            return op == CALL_STATIC || op == CALL_TABLE || op == CALL_EXACTLY;
+        }
+
         private static boolean givesInt(int op) {
-            return op <= 1 || op >= 8 && op <= 22 || op == 44 || op == 45 || op == 56 || op == 57;
+            switch (op) {
+                case PUSH_BYTE:
+                case PUSH_WORD:
+                case SIZE:
+                case GET_AT:
+                case IS:
+                case IN:
+                    return true;
+                default:
+                    return op >= PLUS && op <= TO_SHORT;
+            }
         }
 
         private static boolean canThrow(int op) {
-            return op == 11 || op == 12 || op >= 43 && op <= 51 || op == 54 || op == 55 || op == 57;
+            switch (op) {
+                case DIVIDE:
+                case REST:
+                case THROW:
+                case CAST:
+                case IN:
+                    return true;
+                default:
+                    return op >= NEW_ROW && op <= CALL_EXACTLY;
+            }
         }
 
         private static boolean goesBehind(int op) {
-            return op != 24 && op != SWITCH_OP && (op < 52 || op > 54);
+            switch (op) {
+                case JUMP:
+                case SWITCH:
+                case RETURN:
+                case RETURN_VALUE:
+                case THROW:
+                    return false;
+                default:
+                    return true;
+            }
         }
 
         private void goOn(int op, int place) {
@@ -1560,26 +1645,26 @@ public final class ByteProcessor {
         }
 
         void step() {
-            int op = Math.min(LAST_OP, operand(0));
+            int op = Math.min(OUT, operand(0));
             next = place + LENGTHS[op];
             hasMade = false;
             meter.cycles += CYCLES[op];
             int trap = 0;
-            if (op < 8) {
+            if (op <= SWAP) {
                 moveWord(op);
-            } else if (op < 24) {
+            } else if (op <= INC) {
                 trap = reckon(op);
-            } else if (op <= SWITCH_OP) {
+            } else if (op <= SWITCH) {
                 jump(op);
-            } else if (op < 44) {
+            } else if (op <= NEW_ROW) {
                 trap = make(op);
-            } else if (op < 47) {
+            } else if (op <= PUT_AT) {
                 trap = useRow(op);
-            } else if (op < 49) {
+            } else if (op <= PUT) {
                 trap = useField(op);
-            } else if (op < 52) {
+            } else if (op <= CALL_EXACTLY) {
                 trap = call(op);
-            } else if (op < 54) {
+            } else if (op <= RETURN_VALUE) {
                 giveBack(op);
             } else {
                 trap = useObjectOrPort(op);
@@ -1609,98 +1694,102 @@ public final class ByteProcessor {
 
         private void moveWord(int op) {
             int local = base + operand(1);
-            int value = op >= 4 ? pile.take() : 0;
+            int value = op >= STORE ? pile.take() : 0;
             boolean isReference = pile.tookReference;
             switch (op) {
-                case 0:
+                case PUSH_BYTE:
                     pile.push(image.signedByte(method, place + 1), false);
                     break;
-                case 1:
+                case PUSH_WORD:
                     pile.push(image.signedByte(method, place + 1) * 256 + operand(2), false);
                     break;
-                case 2:
+                case PUSH_NULL:
                     pile.push(0, true);
                     break;
-                case 3:
+                case LOAD:
                     pile.reach(local);
                     pile.push(pile.valueAt(local), pile.isReferenceAt(local));
                     break;
-                case 4:
+                case STORE:
                     pile.reach(local);
                     pile.put(local, value, isReference);
                     break;
-                case 6:
+                case DUP:
                     pile.push(value, isReference);
                     pile.push(value, isReference);
                     break;
-                case 7:
-                    int below = pile.take();
-                    boolean belowIsReference = pile.tookReference;
-                    pile.push(value, isReference);
-                    pile.push(below, belowIsReference);
+                case SWAP:
+                    slipBelowNext(value, isReference);
                     break;
                 default:
                     break;
             }
         }
 
+        private void slipBelowNext(int value, boolean isReference) {
+            int below = pile.take();
+            boolean belowIsReference = pile.tookReference;
+            pile.push(value, isReference);
+            pile.push(below, belowIsReference);
+        }
+
         private int reckon(int op) {
-            if (op == 23) {
+            if (op == INC) {
                 int local = base + operand(1);
                 pile.reach(local);
                 pile.put(local, pile.valueAt(local) + image.signedByte(method, place + 2), false);
                 return 0;
             }
-            if ((op == 11 || op == 12) && pile.fromTop(0) == 0) {
+            if ((op == DIVIDE || op == REST) && pile.fromTop(0) == 0) {
                 return TRAP_DIVISOR;
             }
             int last = pile.take();
-            pile.push(op >= 19 ? ofOne(op, last) : ofTwo(op, pile.take(), last), false);
+            pile.push(op >= NEGATE ? ofOne(op, last) : ofTwo(op, pile.take(), last), false);
             return 0;
         }
 
         private static int ofOne(int op, int a) {
             switch (op) {
-                case 19: return -a;
-                case 20: return (byte) a;
-                case 21: return a & 0xFFFF;
+                case NEGATE: return -a;
+                case TO_BYTE: return (byte) a;
+                case TO_CHAR: return a & 0xFFFF;
                 default: return (short) a;
             }
         }
 
         private static int ofTwo(int op, int a, int b) {
             switch (op) {
-                case 8: return a + b;
-                case 9: return a - b;
-                case 10: return a * b;
-                case 11: return b == 0 ? 0 : a / b;
-                case 12: return b == 0 ? 0 : a % b;
-                case 13: return a & b;
-                case 14: return a | b;
-                case 15: return a ^ b;
-                case 16: return a << b;
-                case 17: return a >> b;
+                case PLUS: return a + b;
+                case MINUS: return a - b;
+                case TIMES: return a * b;
+                case DIVIDE: return b == 0 ? 0 : a / b;
+                case REST: return b == 0 ? 0 : a % b;
+                case AND: return a & b;
+                case OR: return a | b;
+                case XOR: return a ^ b;
+                case LEFT: return a << b;
+                case RIGHT: return a >> b;
                 default: return a >>> b;
             }
         }
 
         private void jump(int op) {
-            int last = op == 24 ? 0 : pile.take();
-            if (op == SWITCH_OP) {
+            int last = op == JUMP ? 0 : pile.take();
+            if (op == SWITCH) {
                 int chosen = last - image.signedByte(method, place + 1);
                 boolean isThere = chosen >= 0 && chosen < operand(2);
                 jumpTo(operand(isThere ? 4 + chosen : 3));
                 return;
             }
             boolean isDone = true;
-            if (op >= 39) {
-                isDone = (pile.take() == last) == (op == 39);
-            } else if (op >= 37) {
-                isDone = (last == 0) == (op == 37);
-            } else if (op >= 31) {
-                isDone = isSo(op - 31, pile.take(), last);
-            } else if (op >= 25) {
-                isDone = isSo(op - 25, last, 0);
+            if (op >= JUMP_IF_SAME) {
+                isDone = (pile.take() == last) == (op == JUMP_IF_SAME);
+            } else if (op >= JUMP_IF_NULL) {
+                isDone = (last == 0) == (op == JUMP_IF_NULL);
+            } else if (op >= JUMP_IF_INTS) {
+                isDone = isSo(op - JUMP_IF_INTS, pile.take(), last);
+            } else if (op >= JUMP_IF_ZERO) {
+                isDone = isSo(op - JUMP_IF_ZERO, last, 0);
             }
             if (isDone) {
                 jumpTo(operand(1));
@@ -1724,11 +1813,11 @@ public final class ByteProcessor {
         }
 
         private int make(int op) {
-            if (op == 43 && pile.fromTop(0) < 0) {
+            if (op == NEW_ROW && pile.fromTop(0) < 0) {
                 return TRAP_SIZE;
             }
-            int owner = op == 42 ? operand(1) : ROW_OWNER;
-            int words = op == 42 ? image.fieldsOf(owner) : pile.take();
+            int owner = op == NEW ? operand(1) : ROW_OWNER;
+            int words = op == NEW ? image.fieldsOf(owner) : pile.take();
             meter.cycles += words;
             int h = heap.allot(owner, words, pile);
             if (h == 0) {
@@ -1741,10 +1830,10 @@ public final class ByteProcessor {
         }
 
         private int useRow(int op) {
-            if (op == 45) {
+            if (op == GET_AT) {
                 return getAt();
             }
-            if (op == 46) {
+            if (op == PUT_AT) {
                 return putAt();
             }
             if (pile.fromTop(0) == 0) {
@@ -1783,10 +1872,10 @@ public final class ByteProcessor {
         private int useField(int op) {
             int field = operand(2);
             boolean isReference = image.fieldType(operand(1), field) != INT;
-            if (pile.fromTop(op == 47 ? 0 : 1) == 0) {
+            if (pile.fromTop(op == GET ? 0 : 1) == 0) {
                 return TRAP_NULL;
             }
-            if (op == 47) {
+            if (op == GET) {
                 pile.push(heap.read(pile.take(), field), isReference);
             } else {
                 int value = pile.take();
@@ -1803,10 +1892,10 @@ public final class ByteProcessor {
             }
             int newBase = pile.size - called.wordsTaken();
             int object = pile.valueAt(newBase);
-            if (op != 49 && object == 0) {
+            if (op != CALL_STATIC && object == 0) {
                 return TRAP_NULL;
             }
-            if (op == 50) {
+            if (op == CALL_TABLE) {
                 m = image.inTable(heap.ownerOf(object), called.name);
                 called = image.methodAt(m);
             }
@@ -1819,7 +1908,7 @@ public final class ByteProcessor {
         }
 
         private void giveBack(int op) {
-            int value = op == 53 ? pile.take() : 0;
+            int value = op == RETURN_VALUE ? pile.take() : 0;
             boolean isReference = pile.tookReference;
             int link = base + method.locals;
             if (pile.valueAt(link) == NONE) {
@@ -1832,7 +1921,7 @@ public final class ByteProcessor {
             pile.reach(link + 2);
             next = pile.valueAt(link + 1);
             goBack(link);
-            if (op == 53) {
+            if (op == RETURN_VALUE) {
                 pile.push(value, isReference);
             }
             cache.seek(number, method.length);
@@ -1853,29 +1942,32 @@ public final class ByteProcessor {
 
         private int useObjectOrPort(int op) {
             switch (op) {
-                case 54:
+                case THROW:
                     if (pile.fromTop(0) == 0) {
                         return TRAP_NULL;
                     }
                     throwObject(pile.take());
                     return 0;
-                case 55:
+                case CAST:
                     return cast();
-                case 56:
-                    int object = pile.take();
-                    pile.push(object != 0 && isOfClass(object) ? 1 : 0, false);
+                case IS:
+                    pile.push(isOfClass(pile.take()) ? 1 : 0, false);
                     return 0;
-                case 57:
-                    if (inputsTaken >= inputs) {
-                        return TRAP_INPUT;
-                    }
-                    inputsTaken++;
-                    pile.push(input[inputsTaken - 1], false);
-                    return 0;
+                case IN:
+                    return takeInput();
                 default:
                     emit(pile.take());
                     return 0;
             }
+        }
+
+        private int takeInput() {
+            if (inputsTaken >= inputs || inputsTaken >= INPUT_LIMIT) {
+                return TRAP_INPUT;
+            }
+            pile.push(input[inputsTaken], false);
+            inputsTaken++;
+            return 0;
         }
 
         private int cast() {

@@ -257,6 +257,17 @@ public final class CodeTest extends Ops {
         CHECK.same("words", y.look(6), 382);
     }
 
+    /** 381 words below the frame, its three and 16 more are 400, which is not too much. */
+    private static void stackJustFits() {
+        ByteProcessor x = Images.plain().main(0, NO_PARAMS, NO, 0, c(CALL, 0, RET)).loaded();
+        x.begin(0, 0, 0);
+        x.go(127);
+        CHECK.same("it runs", x.look(0), 1);
+        CHECK.same("base", x.look(5), 381);
+        x.go(1);
+        CHECK.same("STACK", x.look(0), 5);
+    }
+
     /** The METHOD that the object's class has decides about STACK, and null is ahead of it. */
     private static void stackOfTable() {
         Images i = family()
@@ -427,6 +438,7 @@ public final class CodeTest extends Ops {
         frames();
         withoutResult();
         stack();
+        stackJustFits();
         stackOfTable();
         traps();
         takesNothing();

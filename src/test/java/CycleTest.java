@@ -227,6 +227,88 @@ public final class CycleTest extends Ops {
         CHECK.same("LOW at the end", x.look(7), 3);
     }
 
+    /** All that lies below LOW behind a deep call: an instruction has a FILL for each word that it takes. */
+    private static void filled(int taken, int[] front, int... tail) {
+        int[] code = java.util.Arrays.copyOf(front, front.length + 2 + tail.length + 1);
+        code[front.length] = CALL;
+        code[front.length + 1] = 1;
+        System.arraycopy(tail, 0, code, front.length + 2, tail.length);
+        code[code.length - 1] = RET;
+        for (int i = 1; i < tail.length; i++) {
+            if (tail[i] == 222) {
+                code[front.length + 2 + i] = code.length - 1;
+            }
+        }
+        ByteProcessor x = new Images().klass(NO).klass(0, 0).main(0, NO_PARAMS, NO, 1, code)
+            .main(1, NO_PARAMS, NO, 10, c(RET)).main(2, p(0), 0, 1, c(PUSH, 0, RETV)).loaded(16, 8, 32, 0);
+        x.begin(0, 0, 0);
+        int before = 0;
+        for (int i = 0; i < 20 && x.look(4) != front.length + 2; i++) {
+            x.go(1);
+            before = x.look(6);
+        }
+        CHECK.same("op " + tail[0] + ": all lies below LOW", x.look(7), before);
+        int fills = x.look(9);
+        x.go(1);
+        CHECK.same("op " + tail[0] + ": FILLS", x.look(9) - fills, taken);
+        CHECK.same("op " + tail[0] + ": LOW", x.look(7), before - taken);
+    }
+
+    private static void filledByAll() {
+        filled(1, c(NULL), STORE, 0);
+        filled(1, c(NULL), POP);
+        filled(1, c(NULL), DUP);
+        filled(2, c(NULL, NULL), SWAP);
+        for (int op = ADD; op <= URIGHT; op++) {
+            filled(2, c(PUSH, 1, PUSH, 2), op);
+        }
+        for (int op = NEG; op <= TO_SHORT; op++) {
+            filled(1, c(PUSH, 1), op);
+        }
+        for (int op = 25; op <= 30; op++) {
+            filled(1, c(PUSH, 1), op, 222);
+        }
+        for (int op = 31; op <= 36; op++) {
+            filled(2, c(PUSH, 1, PUSH, 1), op, 222);
+        }
+        filled(1, c(NULL), IFNULL, 222);
+        filled(1, c(NULL), IFNOTNULL, 222);
+        filled(2, c(NULL, NULL), IFREF, 222);
+        filled(2, c(NULL, NULL), IFNOTREF, 222);
+        filled(1, c(PUSH, 1), SWITCH, 0, 1, 222, 222);
+        filled(1, c(PUSH, 1), ROW);
+        filled(1, c(PUSH, 1, ROW), SIZE);
+        filled(2, c(PUSH, 1, ROW, PUSH, 0), GETAT);
+        filled(3, c(PUSH, 1, ROW, PUSH, 0, PUSH, 0), PUTAT);
+        filled(1, c(NEW, 1), GET, 1, 0);
+        filled(2, c(NEW, 1, PUSH, 0), PUT, 1, 0);
+        filled(0, c(PUSH, 0), CALL, 2);
+        filled(1, c(NEW, 1), CAST, 0);
+        filled(1, c(NULL), CAST, 0);
+        filled(1, c(NEW, 1), IS, 1);
+        filled(1, c(PUSH, 0), OUT);
+        ByteProcessor x = Images.plain().main(0, NO_PARAMS, NO, 0, c(NEW, 0, CALL, 1, THROW, POP, RET), new int[] {4, 5, 5, 0})
+            .main(1, NO_PARAMS, NO, 10, c(RET)).loaded(16, 8, 32, 0);
+        x.begin(0, 0, 0);
+        x.go(3);
+        int fills = x.look(9);
+        x.go(1);
+        CHECK.same("THROW takes one, and nothing more is below", x.look(9) - fills, 1);
+    }
+
+    /** Of ROW its size is taken ahead of what is wanted, also if the run ends. */
+    private static void rowTakesAhead() {
+        ByteProcessor x = Images.plain().main(0, NO_PARAMS, NO, 0, c(PUSH, 100, CALL, 1, ROW, RET))
+            .main(1, NO_PARAMS, NO, 10, c(RET)).loaded(16, 8, 32, 0);
+        x.begin(0, 0, 0);
+        x.go(3);
+        int fills = x.look(9);
+        x.go(1);
+        CHECK.same("ROOM", x.look(0), 4);
+        CHECK.same("its FILL", x.look(9) - fills, 1);
+        CHECK.same("LOW", x.look(7), 3);
+    }
+
     /** A frame whose three words are below LOW: RETURN reads each with 2 cycles more; the value is filled ahead of that. */
     private static void readsBelow() {
         ByteProcessor x = Images.plain().main(0, NO_PARAMS, 0, 0, c(CALL, 1, RETV))
@@ -243,6 +325,24 @@ public final class CycleTest extends Ops {
         CHECK.same("cycles", x.cycles() - before, 4 + 1 + 6 + 1 + 1);
         CHECK.same("FILLS", x.look(9) - fills, 2);
         CHECK.same("LOW", x.look(7), 3);
+    }
+
+    /** LOW lies among the three words: each one below it has 2 cycles more. */
+    private static void readsSomeBelow() {
+        int[] cycles = {5, 5 + 2 + 1, 5 + 4 + 1, 5 + 6 + 1};
+        for (int i = 0; i < 4; i++) {
+            ByteProcessor x = Images.plain().main(0, NO_PARAMS, NO, 0, c(CALL, 1, RET))
+                .main(1, NO_PARAMS, NO, 0, c(CALL, 2, RET))
+                .main(2, NO_PARAMS, NO, 2 + i, c(RET)).loaded(16, 8, 16, 0);
+            x.begin(0, 0, 0);
+            x.go(3);
+            CHECK.same("LOW", x.look(7), 3 + i);
+            CHECK.same("method", x.look(3), 1);
+            long before = x.cycles();
+            x.go(1);
+            CHECK.same("LOW behind", x.look(7), 3);
+            CHECK.same("cycles with " + i + " below", x.cycles() - before, cycles[i]);
+        }
     }
 
     /** A trap takes nothing, so nothing is filled until the frame's words go, which is one FILL. */
@@ -355,7 +455,10 @@ public final class CycleTest extends Ops {
         ram();
         fills();
         fillsOfEach();
+        filledByAll();
+        rowTakesAhead();
         readsBelow();
+        readsSomeBelow();
         trapFills();
         cache();
         goesRound();
