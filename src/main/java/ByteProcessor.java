@@ -818,7 +818,7 @@ public final class ByteProcessor {
                 isPlace[i] = false;
             }
             int place = 0;
-            while (place < method.length) {
+            for (int i = 0; i < CODE_LIMIT && place < method.length; i++) {
                 if (byteAt(place) > OUT) {
                     refuse(1, place);
                     return;

@@ -83,6 +83,34 @@ public final class CycleTest extends Ops {
         CHECK.same("IN", x.cycles() - before, 1);
     }
 
+    /** Each JUMP has 1, and 2 more if it is done; each CALL 4 more. */
+    private static void jumpsAndCalls() {
+        int[] small = {0, 1, 255};
+        for (int op = 25; op <= 30; op++) {
+            for (int v : small) {
+                cost("JUMP " + op + " of " + v, 1, isDone(op - 25, (byte) v) ? 3 : 1, PUSH, v, op, 4, RET);
+            }
+        }
+        for (int op = 31; op <= 36; op++) {
+            for (int v : small) {
+                cost("JUMP " + op + " of " + v, 2, isDone(op - 31, (byte) v) ? 3 : 1, PUSH, v, PUSH, 0, op, 6, RET);
+            }
+        }
+        cost("JUMP 37 of an object", 1, 1, NEW, 0, IFNULL, 4, RET);
+        cost("JUMP 38 of an object", 1, 3, NEW, 0, IFNOTNULL, 4, RET);
+        cost("JUMP 39 of two", 2, 1, NEW, 0, NULL, IFREF, 5, RET);
+        cost("JUMP 40 of two", 2, 3, NEW, 0, NULL, IFNOTREF, 5, RET);
+        cost("JUMP 40 of the same", 2, 1, NULL, NULL, IFNOTREF, 4, RET);
+        cost("CALL 50", 1, 1 + 4 + 7, NEW, 2, CALLV, 2, POP, RET);
+        cost("CALL 51", 1, 1 + 4 + 7, NEW, 3, CALLX, 2, POP, RET);
+        cost("RETURN a value", 3, 1 + 3 + 1, NEW, 2, CALLX, 2, POP, RET);
+    }
+
+    private static boolean isDone(int relation, int v) {
+        boolean[] all = {v == 0, v != 0, v < 0, v >= 0, v > 0, v <= 0};
+        return all[relation];
+    }
+
     /** A trap has 5, 2 and three words more, and the first frame that goes 3. */
     private static void traps() {
         int trap = 5 + 2 + 3 + 3;
@@ -450,6 +478,7 @@ public final class CycleTest extends Ops {
 
     public static void main(String[] args) {
         instructions();
+        jumpsAndCalls();
         traps();
         ends();
         ram();
