@@ -269,6 +269,22 @@ public final class ImageEdgesTest extends Ops {
         CHECK.same("behind the last there is none", why(code), 700 + 248);
     }
 
+    /** CODE of 250 bytes that are all INSTRUCTIONS: the most PLACES. */
+    private static void mostPlaces() {
+        int[] code = new int[250];
+        Arrays.fill(code, NEG);
+        code[0] = IN;
+        code[249] = RET;
+        ByteProcessor x = Images.plain().main(0, p(), NO, 0, code).loaded();
+        CHECK.same("PLACES", x.method(0, 8), 250);
+        CHECK.same("times done", x.method(0, 9), 250);
+        CHECK.same("the last one", x.type(0, 249, 100), 0);
+        code[249] = 59;
+        CHECK.same("no INSTRUCTION at the last byte", why(code), 100 + 249);
+        code[249] = NEG;
+        CHECK.same("none behind the last", why(code), 700 + 249);
+    }
+
     /** WHY * 100 and where, or 0. */
     private static int why(int... code) {
         ByteProcessor x = fresh();
@@ -452,6 +468,48 @@ public final class ImageEdgesTest extends Ops {
         CHECK.same("and NULL behind its STORE", y.type(0, 7, 0), -2);
     }
 
+    /** PLACES are those of the METHOD itself: what is one in the METHOD ahead is none here. */
+    private static void placesOfEach() {
+        Images image = Images.plain().main(0, p(), NO, 0, c(NULL, POP, RET)).main(1, p(), NO, 0, c(PUSH, 0, POP, JUMP, 1));
+        ByteProcessor x = fresh();
+        CHECK.same("load", image.loadInto(x), 2);
+        CHECK.same("METHOD", x.fault(2), 1);
+        CHECK.same("WHY", x.fault(3), 3);
+        CHECK.same("PLACE", x.fault(4), 3);
+    }
+
+    /** Loads that are refused leave nothing behind for the next one: neither CODE nor what was TO DO. */
+    private static void manyRefused() {
+        int[] bytes = Arrays.copyOf(full().bytes(), 4000);
+        int length = 9 + 20 * 83;
+        int[] twenty = Arrays.copyOf(with(bytes, 8, 20), length + 1);
+        ByteProcessor x = fresh();
+        Images.feed(x, twenty);
+        for (int i = 0; i < 8; i++) {
+            CHECK.same("one byte too many", x.load(), 1);
+            CHECK.same("there", x.fault(1), length);
+        }
+        x.end(length);
+        CHECK.same("load", x.load(), 0);
+        CHECK.same("its CODE", run(x, 19), 2);
+        Images wrong = Images.plain().main(0, p(0), NO, 1, c(LOAD, 0, IF0, 7, POP, RET, RET, NULL, POP, RET));
+        Images right = Images.plain().main(0, p(0), NO, 1, c(LOAD, 0, POP, RET, PUSH, 0, RET, POP, RET));
+        for (int i = 0; i < 3; i++) {
+            CHECK.same("WRONG", wrong.loadInto(x), 2);
+            CHECK.same("WHY", x.fault(3), 4);
+            CHECK.same("load", right.loadInto(x), 0);
+            CHECK.same("PLACES with a STATE", x.method(0, 8), 3);
+            CHECK.same("times done", x.method(0, 9), 3);
+            CHECK.same("never come to", x.type(0, 7, -1), -1);
+        }
+    }
+
+    private static int run(ByteProcessor x, int m) {
+        x.begin(m, 0, 0);
+        x.go(100);
+        return x.look(0);
+    }
+
     private static Images[] various() {
         int[] longest = body(200);
         System.arraycopy(c(IN, SWITCH, 0, 3, 100, 150, 199, 8), 0, longest, 0, 8);
@@ -495,6 +553,8 @@ public final class ImageEdgesTest extends Ops {
         firstAndLastClass();
         handlersTargets();
         statesOfJumps();
+        placesOfEach();
+        manyRefused();
         imageBehindImage();
         fullTape();
         fullTapeTooEarly();
@@ -509,6 +569,7 @@ public final class ImageEdgesTest extends Ops {
         codeAndHandlers();
         methods();
         longestCode();
+        mostPlaces();
         fullState();
         fullPile();
         callTakesSix();
