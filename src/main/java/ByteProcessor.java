@@ -123,25 +123,30 @@ public final class ByteProcessor {
         1, 1, 1, 1, 1, 1, 1, 1, 1, 1, 1, 1, 1, 1, 1, 1, 1, 3,
         3, 3, 3, 4, 4, 3, 3, 5, 5, 5, 4, 4, 1, 1, 1, 1, 1};
 
-    private final int[] tape;
-    private int fed;
     private final Reader reader;
     private final Verifier verifier;
     private final Machine machine;
+    /** The image in use, without classes as long as there is none. */
     private Image image;
-    private Image spare;
+    /** The one whose bytes are the tape: a wrong one leaves the other as it was. */
+    private Image coming;
     private int loadAnswer;
     private int wrongByte;
     private int wrongMethod;
+    private int wrongWhy;
+    private int wrongPlace;
 
     public ByteProcessor(int k, int ram, int w, int pace) {
-        tape = new int[TAPE_LIMIT];
         reader = new Reader();
         verifier = new Verifier();
+        image = new Image();
+        coming = new Image();
         machine = new Machine(within(k, 2, 16), within(ram, 8, 64), within(w, 16, 256), within(pace, 0, 8));
         loadAnswer = NONE;
         wrongByte = NONE;
         wrongMethod = NONE;
+        wrongWhy = NONE;
+        wrongPlace = NONE;
     }
 
     private static int within(int value, int lowest, int highest) {
@@ -149,56 +154,49 @@ public final class ByteProcessor {
     }
 
     public int feed(int a, int b, int c, int d, int e) {
-        if (fed + 20 > TAPE_LIMIT) {
+        if (coming.length + 20 > TAPE_LIMIT) {
             return NONE;
         }
-        append(a);
-        append(b);
-        append(c);
-        append(d);
-        append(e);
-        return fed;
-    }
-
-    private void append(int four) {
-        for (int shift = 24; shift >= 0 && fed < TAPE_LIMIT; shift -= 8) {
-            tape[fed] = (four >>> shift) & 255;
-            fed++;
-        }
+        coming.append(a);
+        coming.append(b);
+        coming.append(c);
+        coming.append(d);
+        coming.append(e);
+        return coming.length;
     }
 
     public int end(int n) {
-        if (n < 0 || n > fed) {
+        if (n < 0 || n > coming.length) {
             return NONE;
         }
-        fed = n;
+        coming.length = n;
         return n;
     }
 
     public int load() {
-        // A wrong image must leave the one that is in use as it was, so it is read into another one.
-        if (spare == null) {
-            spare = new Image();
-        }
-        wrongMethod = NONE;
-        wrongByte = reader.readImage(tape, fed, spare);
+        wrongByte = reader.readImage(coming);
+        wrongMethod = wrongByte == NONE ? verifier.firstWrong(coming) : NONE;
+        wrongWhy = wrongMethod == NONE ? NONE : verifier.why;
+        wrongPlace = wrongMethod == NONE ? NONE : verifier.where;
         if (wrongByte != NONE) {
             loadAnswer = 1;
-            return loadAnswer;
-        }
-        wrongMethod = verifier.firstWrong(spare);
-        if (wrongMethod != NONE) {
+        } else if (wrongMethod != NONE) {
             loadAnswer = 2;
-            return loadAnswer;
+        } else {
+            loadAnswer = 0;
+            useComing();
         }
+        return loadAnswer;
+    }
+
+    /** The image that was in use takes the next tape, so that no other one is ever made. */
+    private void useComing() {
         Image old = image;
-        image = spare;
-        spare = old;
-        fed = 0;
+        image = coming;
+        coming = old;
+        coming.length = 0;
         machine.clear(image);
         machine.inputs = 0;
-        loadAnswer = 0;
-        return loadAnswer;
     }
 
     public int fault(int what) {
@@ -206,14 +204,14 @@ public final class ByteProcessor {
             case 0: return loadAnswer;
             case 1: return wrongByte;
             case 2: return wrongMethod;
-            case 3: return wrongMethod == NONE ? NONE : verifier.why;
-            case 4: return wrongMethod == NONE ? NONE : verifier.where;
+            case 3: return wrongWhy;
+            case 4: return wrongPlace;
             default: return NONE;
         }
     }
 
     public int klass(int c, int what) {
-        if (image == null || c < 0 || c >= image.classes) {
+        if (c < 0 || c >= image.classes) {
             return NONE;
         }
         switch (what) {
@@ -225,7 +223,7 @@ public final class ByteProcessor {
     }
 
     public int method(int m, int what) {
-        Method method = image == null ? null : image.methodAt(m);
+        Method method = image.methodAt(m);
         if (method == null) {
             return NONE;
         }
@@ -245,16 +243,16 @@ public final class ByteProcessor {
     }
 
     public int table(int c, int name) {
-        return image == null ? NONE : image.inTable(c, name);
+        return image.inTable(c, name);
     }
 
     public int type(int m, int place, int i) {
-        Method method = image == null ? null : image.methodAt(m);
+        Method method = image.methodAt(m);
         if (method == null || place < 0 || place >= method.length) {
             return NONE;
         }
-        int at = method.codeAt + place;
-        int size = image.states.sizeAt(at);
+        States states = verifier.statesOf(image, m);
+        int size = states.sizeAt(place);
         if (size == NONE) {
             return NONE;
         }
@@ -262,10 +260,10 @@ public final class ByteProcessor {
             return size;
         }
         if (i >= 0 && i < method.locals) {
-            return told(image.states.typeAt(at, i));
+            return told(states.typeAt(place, i));
         }
         if (i >= FIRST_PILE_TYPE && i - FIRST_PILE_TYPE < size) {
-            return told(image.states.typeAt(at, LOCAL_LIMIT + i - FIRST_PILE_TYPE));
+            return told(states.typeAt(place, LOCAL_LIMIT + i - FIRST_PILE_TYPE));
         }
         return NONE;
     }
@@ -278,7 +276,7 @@ public final class ByteProcessor {
     }
 
     public boolean input(int v) {
-        if (image == null || machine.inputs >= INPUT_LIMIT) {
+        if (image.classes == 0 || machine.inputs >= INPUT_LIMIT) {
             return false;
         }
         machine.input[machine.inputs] = v;
@@ -287,7 +285,7 @@ public final class ByteProcessor {
     }
 
     public boolean begin(int m, int a, int b) {
-        Method method = image == null ? null : image.methodAt(m);
+        Method method = image.methodAt(m);
         if (method == null || !method.isStatic || method.params > 2) {
             return false;
         }
@@ -344,9 +342,9 @@ public final class ByteProcessor {
             case 21: return machine.inputs;
             case 22: return machine.inputsTaken;
             case 23: return heap.space;
-            case 24: return image == null ? 0 : image.classes;
-            case 25: return image == null ? 0 : image.methodCount;
-            case 26: return fed;
+            case 24: return image.classes;
+            case 25: return image.methodCount;
+            case 26: return coming.length;
             default: return NONE;
         }
     }
@@ -447,56 +445,60 @@ public final class ByteProcessor {
         }
     }
 
-    /** The STATES of an image's code: twelve types to a long, as a type has five bits and the room is small. */
+    /** The STATES of one METHOD: twelve types to a long, as a type has five bits and the room is small. */
     private static final class States {
         private static final int LONGS = 3;
         private static final int TYPES_IN_LONG = 12;
 
-        private final long[] types = new long[TAPE_LIMIT * LONGS];
-        private final int[] sizes = new int[TAPE_LIMIT];
+        private final long[] types = new long[CODE_LIMIT * LONGS];
+        private final int[] sizes = new int[CODE_LIMIT];
 
-        int sizeAt(int at) {
-            return at < 0 || at >= TAPE_LIMIT ? NONE : sizes[at];
+        void clear() {
+            Arrays.fill(sizes, NONE);
         }
 
-        void setSize(int at, int size) {
-            if (at >= 0 && at < TAPE_LIMIT) {
-                sizes[at] = size;
+        int sizeAt(int place) {
+            return place < 0 || place >= CODE_LIMIT ? NONE : sizes[place];
+        }
+
+        void setSize(int place, int size) {
+            if (place >= 0 && place < CODE_LIMIT) {
+                sizes[place] = size;
             }
         }
 
-        int typeAt(int at, int i) {
-            if (at < 0 || at >= TAPE_LIMIT || i < 0 || i >= LONGS * TYPES_IN_LONG) {
+        int typeAt(int place, int i) {
+            if (place < 0 || place >= CODE_LIMIT || i < 0 || i >= LONGS * TYPES_IN_LONG) {
                 return NOTHING;
             }
-            return (int) (types[at * LONGS + i / TYPES_IN_LONG] >>> (i % TYPES_IN_LONG * 5)) & 31;
+            return (int) (types[place * LONGS + i / TYPES_IN_LONG] >>> (i % TYPES_IN_LONG * 5)) & 31;
         }
 
-        void setType(int at, int i, int type) {
-            if (at < 0 || at >= TAPE_LIMIT || i < 0 || i >= LONGS * TYPES_IN_LONG) {
+        void setType(int place, int i, int type) {
+            if (place < 0 || place >= CODE_LIMIT || i < 0 || i >= LONGS * TYPES_IN_LONG) {
                 return;
             }
-            int index = at * LONGS + i / TYPES_IN_LONG;
+            int index = place * LONGS + i / TYPES_IN_LONG;
             int shift = i % TYPES_IN_LONG * 5;
             types[index] = types[index] & ~(31L << shift) | (long) type << shift;
         }
     }
 
-    /** An image as it was read: classes, METHODS, their code and the STATES of it. */
+    /** The bytes of a tape, and the classes and METHODS that were read from them; none where there is no image. */
     private static final class Image {
-        private static final int FIELDS = 96;
+        static final int OWN_FIELDS = 6;
+        private static final int BYTES_IN_INT = 4;
 
+        private final int[] bytes = new int[TAPE_LIMIT / BYTES_IN_INT];
+        int length;
         int classes;
         final int[] superOf = new int[CLASS_LIMIT];
         final int[] ownFields = new int[CLASS_LIMIT];
         final int[] allFields = new int[CLASS_LIMIT];
-        private final int[] fieldTypes = new int[CLASS_LIMIT * FIELDS];
+        private final int[] ownTypes = new int[CLASS_LIMIT * OWN_FIELDS];
         private final int[] table = new int[CLASS_LIMIT * NAMES];
         int methodCount;
         private final Method[] methods = new Method[METHOD_LIMIT];
-        private final int[] code = new int[TAPE_LIMIT];
-        private int codeUsed;
-        final States states = new States();
 
         Image() {
             for (int m = 0; m < METHOD_LIMIT; m++) {
@@ -504,10 +506,26 @@ public final class ByteProcessor {
             }
         }
 
+        void append(int four) {
+            for (int shift = 24; shift >= 0 && length < TAPE_LIMIT; shift -= 8) {
+                int index = length / BYTES_IN_INT;
+                int upper = 24 - length % BYTES_IN_INT * 8;
+                bytes[index] = bytes[index] & ~(255 << upper) | (four >>> shift & 255) << upper;
+                length++;
+            }
+        }
+
+        int byteAt(int at) {
+            if (at < 0 || at >= TAPE_LIMIT) {
+                return 0;
+            }
+            return bytes[at / BYTES_IN_INT] << at % BYTES_IN_INT * 8 >>> 24;
+        }
+
+        /** Forgets what was read; the bytes stay. */
         void clear() {
             classes = 0;
             methodCount = 0;
-            codeUsed = 0;
             Arrays.fill(table, NONE);
         }
 
@@ -523,27 +541,30 @@ public final class ByteProcessor {
             return methods[methodCount - 1];
         }
 
+        void setClass(int c, int above, int own) {
+            superOf[c] = above;
+            ownFields[c] = own;
+            allFields[c] = above < 0 ? own : own + allFields[above];
+        }
+
+        void setOwnType(int c, int f, int type) {
+            ownTypes[c * OWN_FIELDS + f] = type;
+        }
+
         int fieldsOf(int c) {
             return c < 0 || c >= classes ? 0 : allFields[c];
         }
 
+        /** Goes up to the class that has the field as its own one. */
         int fieldType(int c, int f) {
-            return c < 0 || c >= classes || f < 0 || f >= allFields[c] ? NONE : fieldTypes[c * FIELDS + f];
-        }
-
-        void inheritFields(int c) {
-            int above = superOf[c];
-            allFields[c] = above < 0 ? 0 : allFields[above];
-            for (int f = 0; f < allFields[c]; f++) {
-                fieldTypes[c * FIELDS + f] = fieldTypes[above * FIELDS + f];
+            if (c < 0 || c >= classes || f < 0 || f >= allFields[c]) {
+                return NONE;
             }
-        }
-
-        void addField(int c, int type) {
-            if (allFields[c] < FIELDS) {
-                fieldTypes[c * FIELDS + allFields[c]] = type;
-                allFields[c]++;
+            int holder = c;
+            for (int i = 0; i < CLASS_LIMIT && f < allFields[holder] - ownFields[holder]; i++) {
+                holder = superOf[holder];
             }
+            return ownTypes[holder * OWN_FIELDS + f - (allFields[holder] - ownFields[holder])];
         }
 
         int inTable(int c, int name) {
@@ -562,22 +583,6 @@ public final class ByteProcessor {
                     }
                 }
             }
-        }
-
-        void addCode(Method method, int[] from, int at) {
-            method.codeAt = codeUsed;
-            if (codeUsed + method.length <= TAPE_LIMIT && at + method.length <= from.length) {
-                System.arraycopy(from, at, code, codeUsed, method.length);
-                codeUsed += method.length;
-            }
-        }
-
-        int codeByte(Method method, int place) {
-            return place < 0 || place >= method.length ? 0 : code[method.codeAt + place];
-        }
-
-        int signedByte(Method method, int place) {
-            return (byte) codeByte(method, place);
         }
 
         boolean isOf(int c, int above) {
@@ -607,19 +612,15 @@ public final class ByteProcessor {
     private static final class Reader {
         private static final int NO_CLASS = 255;
 
-        private int[] bytes;
-        private int length;
         private int at;
         private boolean isWrong;
         private Image image;
 
         /** The byte at which the FORM is wrong, or NONE. */
-        int readImage(int[] tape, int tapeLength, Image into) {
-            bytes = tape;
-            length = tapeLength;
+        int readImage(Image toRead) {
             at = 0;
             isWrong = false;
-            image = into;
+            image = toRead;
             image.clear();
             next(202, 202);
             next(254, 254);
@@ -633,11 +634,11 @@ public final class ByteProcessor {
                 readMethod(m);
             }
             image.inheritTables();
-            return isWrong || at < length ? at : NONE;
+            return isWrong || at < image.length ? at : NONE;
         }
 
         private int peek() {
-            return at < length ? bytes[at] : NONE;
+            return at < image.length ? image.byteAt(at) : NONE;
         }
 
         /** Once a byte was wrong no other one is read, and the lowest value stands for all that would follow. */
@@ -651,22 +652,21 @@ public final class ByteProcessor {
             return value;
         }
 
+        private int noClass() {
+            next(NO_CLASS, NO_CLASS);
+            return NONE;
+        }
+
         private int nextType() {
             return next(INT, FIRST_CLASS + image.classes - 1);
         }
 
         private void readClass(int c) {
-            if (c == 0) {
-                next(NO_CLASS, NO_CLASS);
-                image.superOf[c] = NONE;
-            } else {
-                image.superOf[c] = next(0, c == TRAPS_CLASS ? 0 : c - 1);
-            }
-            int own = next(c == TRAPS_CLASS ? 1 : 0, c == 0 ? 0 : 6);
-            image.ownFields[c] = own;
-            image.inheritFields(c);
+            int above = c == 0 ? noClass() : next(0, c == TRAPS_CLASS ? 0 : c - 1);
+            int own = next(c == TRAPS_CLASS ? 1 : 0, c == 0 ? 0 : Image.OWN_FIELDS);
+            image.setClass(c, above, own);
             for (int f = 0; f < own; f++) {
-                image.addField(c, c == TRAPS_CLASS && f == 0 ? next(INT, INT) : nextType());
+                image.setOwnType(c, f, c == TRAPS_CLASS && f == 0 ? next(INT, INT) : nextType());
             }
         }
 
@@ -725,8 +725,7 @@ public final class ByteProcessor {
         private int nextResult(Method over) {
             boolean isNone = over == null ? peek() == NO_CLASS : over.result == NONE;
             if (isNone) {
-                next(NO_CLASS, NO_CLASS);
-                return NONE;
+                return noClass();
             }
             return over == null ? nextType() : next(over.result, over.result);
         }
@@ -745,12 +744,12 @@ public final class ByteProcessor {
             if (isWrong) {
                 return;
             }
-            if (length - at < method.length) {
+            if (image.length - at < method.length) {
                 isWrong = true;
-                at = length;
+                at = image.length;
                 return;
             }
-            image.addCode(method, bytes, at);
+            method.codeAt = at;
             at += method.length;
         }
     }
@@ -765,8 +764,9 @@ public final class ByteProcessor {
         int why;
         int where;
         private Image image;
-        private States states;
+        private int number;
         private Method method;
+        private final States states = new States();
         private final boolean[] isPlace = new boolean[CODE_LIMIT];
         private final boolean[] isToDo = new boolean[CODE_LIMIT];
         private int firstToDo;
@@ -777,25 +777,45 @@ public final class ByteProcessor {
 
         /** The first METHOD that is WRONG, or NONE; why and where tell more of it. */
         int firstWrong(Image toVerify) {
-            image = toVerify;
-            states = image.states;
-            why = 0;
-            where = NONE;
-            for (int m = 0; m < image.methodCount; m++) {
-                method = image.methodAt(m);
-                walkInstructions();
-                if (why == 0) {
-                    walkTargets();
-                }
-                if (why == 0) {
-                    setFirstState();
-                    followStates();
-                }
+            for (int m = 0; m < toVerify.methodCount; m++) {
+                verify(toVerify, m);
                 if (why != 0) {
                     return m;
                 }
             }
             return NONE;
+        }
+
+        /** There is room for the STATES of one METHOD, so those of any but the latest are worked out again. */
+        States statesOf(Image verified, int m) {
+            if (image != verified || number != m) {
+                verify(verified, m);
+            }
+            return states;
+        }
+
+        private void verify(Image toVerify, int m) {
+            image = toVerify;
+            number = m;
+            method = image.methodAt(m);
+            why = 0;
+            where = NONE;
+            if (method == null) {
+                return;
+            }
+            walkInstructions();
+            if (why == 0) {
+                walkTargets();
+            }
+            if (why == 0) {
+                setFirstState();
+            }
+            for (int round = 0; round < ROUNDS && why == 0 && firstToDo < method.length; round++) {
+                isToDo[firstToDo] = false;
+                method.timesDone++;
+                doPlace(firstToDo);
+                findToDo();
+            }
         }
 
         private void refuse(int reason, int place) {
@@ -804,7 +824,7 @@ public final class ByteProcessor {
         }
 
         private int byteAt(int place) {
-            return image.codeByte(method, place);
+            return image.byteAt(method.codeAt + place);
         }
 
         private int lengthAt(int place) {
@@ -898,8 +918,8 @@ public final class ByteProcessor {
         }
 
         private void setFirstState() {
-            for (int place = 0; place < method.length; place++) {
-                states.setSize(method.codeAt + place, NONE);
+            states.clear();
+            for (int place = 0; place < CODE_LIMIT; place++) {
                 isToDo[place] = false;
             }
             method.stated = 0;
@@ -910,17 +930,9 @@ public final class ByteProcessor {
             come(0, 0, types, 0);
         }
 
-        private void followStates() {
-            for (int round = 0; round < ROUNDS && why == 0; round++) {
-                while (firstToDo < method.length && !isToDo[firstToDo]) {
-                    firstToDo++;
-                }
-                if (firstToDo >= method.length) {
-                    return;
-                }
-                isToDo[firstToDo] = false;
-                method.timesDone++;
-                doPlace(firstToDo);
+        private void findToDo() {
+            while (firstToDo < method.length && !isToDo[firstToDo]) {
+                firstToDo++;
             }
         }
 
@@ -944,13 +956,12 @@ public final class ByteProcessor {
         }
 
         private void takeState(int place) {
-            int at = method.codeAt + place;
-            size = Math.max(0, Math.min(PUSH_LIMIT, states.sizeAt(at)));
+            size = Math.max(0, Math.min(PUSH_LIMIT, states.sizeAt(place)));
             for (int i = 0; i < size; i++) {
-                types[i] = states.typeAt(at, LOCAL_LIMIT + i);
+                types[i] = states.typeAt(place, LOCAL_LIMIT + i);
             }
             for (int i = 0; i < method.locals; i++) {
-                locals[i] = states.typeAt(at, i);
+                locals[i] = states.typeAt(place, i);
             }
         }
 
@@ -1139,10 +1150,9 @@ public final class ByteProcessor {
 
         /** Brings the LOCALS and a pile from a PLACE to another one. */
         private void come(int place, int target, int[] pile, int pileSize) {
-            int at = method.codeAt + target;
-            int known = states.sizeAt(at);
+            int known = states.sizeAt(target);
             if (known == NONE) {
-                setState(at, pile, pileSize);
+                setState(target, pile, pileSize);
                 setToDo(target);
                 return;
             }
@@ -1154,14 +1164,14 @@ public final class ByteProcessor {
             for (int i = 0; i < method.locals + pileSize; i++) {
                 boolean isLocal = i < method.locals;
                 int slot = isLocal ? i : LOCAL_LIMIT + i - method.locals;
-                int old = states.typeAt(at, slot);
+                int old = states.typeAt(target, slot);
                 int type = joined(old, isLocal ? locals[i] : pile[i - method.locals]);
                 if (type == NOTHING && !isLocal) {
                     refuse(8, place);
                     return;
                 }
                 if (type != old) {
-                    states.setType(at, slot, type);
+                    states.setType(target, slot, type);
                     isOther = true;
                 }
             }
@@ -1170,14 +1180,14 @@ public final class ByteProcessor {
             }
         }
 
-        private void setState(int at, int[] pile, int pileSize) {
+        private void setState(int place, int[] pile, int pileSize) {
             method.stated++;
-            states.setSize(at, pileSize);
+            states.setSize(place, pileSize);
             for (int i = 0; i < method.locals; i++) {
-                states.setType(at, i, locals[i]);
+                states.setType(place, i, locals[i]);
             }
             for (int i = 0; i < pileSize; i++) {
-                states.setType(at, LOCAL_LIMIT + i, pile[i]);
+                states.setType(place, LOCAL_LIMIT + i, pile[i]);
             }
         }
 
@@ -1680,7 +1690,11 @@ public final class ByteProcessor {
         }
 
         private int operand(int i) {
-            return image.codeByte(method, place + i);
+            return image.byteAt(method.codeAt + place + i);
+        }
+
+        private int signedOperand(int i) {
+            return (byte) operand(i);
         }
 
         private void collectBehind() {
@@ -1698,10 +1712,10 @@ public final class ByteProcessor {
             boolean isReference = pile.tookReference;
             switch (op) {
                 case PUSH_BYTE:
-                    pile.push(image.signedByte(method, place + 1), false);
+                    pile.push(signedOperand(1), false);
                     break;
                 case PUSH_WORD:
-                    pile.push(image.signedByte(method, place + 1) * 256 + operand(2), false);
+                    pile.push(signedOperand(1) * 256 + operand(2), false);
                     break;
                 case PUSH_NULL:
                     pile.push(0, true);
@@ -1737,7 +1751,7 @@ public final class ByteProcessor {
             if (op == INC) {
                 int local = base + operand(1);
                 pile.reach(local);
-                pile.put(local, pile.valueAt(local) + image.signedByte(method, place + 2), false);
+                pile.put(local, pile.valueAt(local) + signedOperand(2), false);
                 return 0;
             }
             if ((op == DIVIDE || op == REST) && pile.fromTop(0) == 0) {
@@ -1776,7 +1790,7 @@ public final class ByteProcessor {
         private void jump(int op) {
             int last = op == JUMP ? 0 : pile.take();
             if (op == SWITCH) {
-                int chosen = last - image.signedByte(method, place + 1);
+                int chosen = last - signedOperand(1);
                 boolean isThere = chosen >= 0 && chosen < operand(2);
                 jumpTo(operand(isThere ? 4 + chosen : 3));
                 return;

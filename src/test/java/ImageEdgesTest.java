@@ -123,6 +123,33 @@ public final class ImageEdgesTest extends Ops {
         CHECK.same("load", x.load(), 0);
     }
 
+    /** Bytes come behind the tape wherever it was cut: an image in pieces of 1 to 20 bytes is the same image. */
+    private static void pieces() {
+        int[] bytes = Images.plain()
+            .main(0, p(), NO, 1, c(PUSHW, 200, 129, OUT, PUSH, 255, STORE, 0, INC, 0, 127, LOAD, 0, OUT, RET)).bytes();
+        for (int piece = 1; piece <= 20; piece++) {
+            ByteProcessor x = fresh();
+            for (int at = 0; at < bytes.length; at += piece) {
+                CHECK.same("feed", feedFrom(x, bytes, at), at + 20);
+                x.end(Math.min(at + piece, bytes.length));
+            }
+            CHECK.same("load of pieces of " + piece, x.load(), 0);
+            x.begin(0, 0, 0);
+            x.go(100);
+            CHECK.same("pieces of " + piece + ": a word", x.out(0), -14207);
+            CHECK.same("pieces of " + piece + ": bytes", x.out(1), 126);
+        }
+    }
+
+    /** Behind the bytes come others that are all of ones, which the next piece must take the place of. */
+    private static int feedFrom(ByteProcessor x, int[] bytes, int at) {
+        int[] v = new int[5];
+        for (int i = 0; i < 20; i++) {
+            v[i / 4] = v[i / 4] << 8 | (at + i < bytes.length ? bytes[at + i] : 255);
+        }
+        return x.feed(v[0], v[1], v[2], v[3], v[4]);
+    }
+
     /** "C, CLASSES 0 .. C - 1, 2 to 16", and a TYPE is "2 + a class": with 16 of them 17 is the last one. */
     private static void classes() {
         Images image = new Images().klass(NO).klass(0, 0);
@@ -373,6 +400,46 @@ public final class ImageEdgesTest extends Ops {
         told(x, 0, -1, -1, -1, -1);
     }
 
+    /** Four METHODS whose STATES differ, with some LOCALS more. */
+    private static Images fourStates(int more) {
+        return Images.plain()
+            .main(0, p(), NO, more, c(NULL, POP, RET))
+            .main(1, p(), NO, more + 1, c(PUSH, 1, STORE, 0, RET))
+            .main(2, p(0), NO, more + 2, c(NEW, 1, STORE, 1, JUMP, 6, RET))
+            .main(3, p(3, 1), NO, more + 3, c(LOAD, 0, STORE, 2, LOAD, 1, POP, RET));
+    }
+
+    private static void theirStates(ByteProcessor x, int more, int... order) {
+        for (int m : order) {
+            String of = "METHOD " + m + " with " + more + ": ";
+            CHECK.same(of + "LOCALS", x.type(m, 0, more + m), -1);
+            CHECK.same(of + "the last LOCAL", x.type(m, 0, more + m - 1), -3);
+            CHECK.same(of + "no PLACE", x.type(m, m == 0 ? 3 : 1, -1), -1);
+            CHECK.same(of + "what the first one pushes", x.type(m, m == 0 ? 1 : 2, 100), new int[] {-2, 0, 3, 3}[m]);
+            CHECK.same(of + "one word", x.type(m, m == 0 ? 1 : 2, -1), 1);
+            CHECK.same(of + "no second one", x.type(m, m == 0 ? 1 : 2, 101), -1);
+        }
+    }
+
+    /** The STATES of each METHOD are told whatever was asked ahead, whatever other images were refused since. */
+    private static void statesInAnyOrder() {
+        ByteProcessor x = fourStates(1).loaded();
+        theirStates(x, 1, 3, 0, 2, 1, 1, 3, 2, 0);
+        Images.feed(x, with(fourStates(2).bytes(), 0, 1));
+        CHECK.same("a wrong FORM", x.load(), 1);
+        theirStates(x, 1, 0, 3);
+        CHECK.same("a wrong METHOD", fourStates(5).main(4, p(), NO, 0, c(POP, RET)).loadInto(x), 2);
+        theirStates(x, 1, 3, 2, 0, 1);
+        told(x, 2, -1, 4, 4, 0);
+        x.end(0);
+        CHECK.same("another image", fourStates(7).loadInto(x), 0);
+        theirStates(x, 7, 3, 1, 2, 0);
+        CHECK.same("the same again", fourStates(1).loadInto(x), 0);
+        theirStates(x, 1, 2, 3, 1, 0);
+        CHECK.same("PLACES of one", x.method(3, 8), 5);
+        CHECK.same("times done", x.method(3, 9), 5);
+    }
+
     private static void told(ByteProcessor x, int... want) {
         for (int what = 0; what < 5; what++) {
             CHECK.same("fault " + what, x.fault(what), want[what]);
@@ -561,6 +628,7 @@ public final class ImageEdgesTest extends Ops {
         noneComes();
         end();
         endCuts();
+        pieces();
         classes();
         fields();
         names();
@@ -574,6 +642,7 @@ public final class ImageEdgesTest extends Ops {
         fullPile();
         callTakesSix();
         faults();
+        statesInAnyOrder();
         others();
         CHECK.end();
     }
