@@ -38,9 +38,15 @@ public final class CodeTest extends Ops {
         two(DIV, -7, 2, -3);
         two(DIV, 7, -2, -3);
         two(DIV, MIN, -1, MIN);
+        two(DIV, -7, 1, -7);
+        two(DIV, 7, -1, -7);
+        two(DIV, 7, 7, 1);
+        two(DIV, 6, 7, 0);
         two(REST, -7, 2, -1);
         two(REST, 7, -2, 1);
         two(REST, MIN, -1, 0);
+        two(REST, 7, 1, 0);
+        two(REST, 6, 7, 6);
         two(AND, 12, 10, 8);
         two(OR, 12, 10, 14);
         two(XOR, 12, 10, 6);
@@ -157,6 +163,80 @@ public final class CodeTest extends Ops {
         CHECK.same("word 3", x.word(1, 3), 3);
         CHECK.same("class", x.handle(1, 0), 3);
         CHECK.same("a ROW", x.handle(2, 0), -2);
+    }
+
+    /** No INSTRUCTION looks at, or changes, what lies below the words that it takes. */
+    private static void below(int steps, int words, int... tail) {
+        int[][] fronts = {{PUSHW, 255, 255}, {PUSHW, 0, 0}, {PUSHW, 128, 0}, {PUSHW, 0, 61}, {NULL, NULL, POP}};
+        int[] values = {-1, 0, -32768, 61, 0};
+        for (int f = 0; f < fronts.length; f++) {
+            int[] code = java.util.Arrays.copyOf(fronts[f], 3 + tail.length + 1);
+            System.arraycopy(tail, 0, code, 3, tail.length);
+            code[3 + tail.length] = RET;
+            ByteProcessor x = new Images().klass(NO).klass(0, 0).klass(0, 0).main(0, p(0), NO, 1, code)
+                .main(1, p(0), 0, 1, c(LOAD, 0, RETV)).method(2, 0, 0, NO_PARAMS, NO, 1, c(RET)).loaded();
+            x.input(9);
+            x.begin(0, 5, 0);
+            int first = f == 4 ? 3 : 1;
+            String what = java.util.Arrays.toString(tail) + " over " + values[f];
+            CHECK.same(what + ": go", x.go(first + steps), first + steps);
+            CHECK.same(what + ": it RUNS", x.look(0), 1);
+            CHECK.same(what + ": PLACE", x.look(4), 3 + tail.length);
+            CHECK.same(what + ": words", x.look(6), 4 + 1 + words);
+            CHECK.same(what + ": the word below", x.pile(4, 0), values[f]);
+            CHECK.same(what + ": its kind", x.pile(4, 1), f == 4 ? 1 : 0);
+        }
+    }
+
+    private static void belowEach() {
+        below(1, 1, PUSH, 3);
+        below(1, 1, PUSHW, 3, 3);
+        below(1, 1, NULL);
+        below(1, 1, LOAD, 0);
+        below(2, 0, PUSH, 3, STORE, 0);
+        below(2, 0, PUSH, 3, POP);
+        below(2, 2, PUSH, 3, DUP);
+        below(3, 2, PUSH, 3, PUSH, 4, SWAP);
+        for (int op = ADD; op <= URIGHT; op++) {
+            below(3, 1, PUSH, 3, PUSH, 4, op);
+            below(3, 1, PUSH, 0, PUSH, 4, op);
+            if (op != DIV && op != REST) {
+                below(3, 1, PUSH, 3, PUSH, 0, op);
+            }
+        }
+        for (int op = NEG; op <= TO_SHORT; op++) {
+            below(2, 1, PUSH, 3, op);
+            below(2, 1, PUSH, 0, op);
+        }
+        below(1, 0, INC, 0, 1);
+        below(1, 0, JUMP, 5);
+        for (int op = IF0; op < IFSAME; op++) {
+            below(2, 0, PUSH, 3, op, 7);
+        }
+        for (int op = IFSAME; op < IFNULL; op++) {
+            below(3, 0, PUSH, 3, PUSH, 4, op, 9);
+        }
+        below(2, 0, NULL, IFNULL, 6);
+        below(2, 0, NULL, IFNOTNULL, 6);
+        below(3, 0, NULL, NULL, IFREF, 7);
+        below(3, 0, NULL, NULL, IFNOTREF, 7);
+        below(2, 0, PUSH, 3, SWITCH, 0, 1, 10, 10);
+        below(1, 1, NEW, 0);
+        below(1, 1, NEW, 2);
+        below(2, 1, PUSH, 3, ROW);
+        below(3, 1, PUSH, 3, ROW, SIZE);
+        below(4, 1, PUSH, 3, ROW, PUSH, 2, GETAT);
+        below(5, 0, PUSH, 3, ROW, PUSH, 2, PUSH, 1, PUTAT);
+        below(2, 1, NEW, 2, GET, 2, 0);
+        below(3, 0, NEW, 2, PUSH, 2, PUT, 2, 0);
+        below(4, 1, PUSH, 7, CALL, 1);
+        below(3, 0, NEW, 2, CALLV, 2);
+        below(3, 0, NEW, 2, CALLX, 2);
+        below(2, 1, NEW, 2, CAST, 0);
+        below(2, 1, NULL, CAST, 2);
+        below(2, 1, NEW, 0, IS, 2);
+        below(1, 1, IN);
+        below(2, 0, PUSH, 3, OUT);
     }
 
     private static Images family() {
@@ -434,6 +514,7 @@ public final class CodeTest extends Ops {
         references();
         switches();
         rowsAndFields();
+        belowEach();
         calls();
         frames();
         withoutResult();

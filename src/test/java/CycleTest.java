@@ -476,6 +476,67 @@ public final class CycleTest extends Ops {
         CHECK.same("MISSES", x.look(11), 4);
     }
 
+    /** The last block is one as the others: it is found, and it is lost with the others of its METHOD. */
+    private static void lastBlock() {
+        ByteProcessor x = Images.plain()
+            .main(0, NO_PARAMS, NO, 0, body(16, CALL, 1, CALL, 1, RET))
+            .main(1, NO_PARAMS, NO, 0, c(RET)).loaded(2, 64, 16, 0);
+        x.begin(0, 0, 0);
+        x.go(1);
+        blocks(x, "METHOD 1 in the last block", 0, 1);
+        x.go(2);
+        CHECK.same("HITS of RETURN and CALL", x.look(10), 2);
+        CHECK.same("MISSES", x.look(11), 2);
+        x = Images.plain()
+            .main(0, NO_PARAMS, NO, 0, body(16, CALL, 1, RET))
+            .main(1, NO_PARAMS, NO, 0, body(17, CALL, 2, RET))
+            .main(2, NO_PARAMS, NO, 0, body(17, RET)).loaded(3, 64, 16, 0);
+        x.begin(0, 0, 0);
+        x.go(1);
+        blocks(x, "CALL 1", 0, 1, 1);
+        x.go(1);
+        blocks(x, "CALL 2, METHOD 1 is gone", 2, 2, -1);
+        CHECK.same("NEXT", x.look(12), 2);
+        x.go(1);
+        blocks(x, "RETURN, METHOD 2 is gone", 1, -1, 1);
+        CHECK.same("MISSES", x.look(11), 4);
+        CHECK.same("NEXT", x.look(12), 1);
+    }
+
+    /** A CALL of a METHOD that is never there leaves none: behind RETURN and HANDLER the METHOD's own blocks come again. */
+    private static void missesBehind() {
+        for (int length = 8; length <= 64; length++) {
+            int blocks = (length + 15) / 16;
+            ByteProcessor x = Images.plain()
+                .main(0, p(0), NO, 1, body(length, CALL, 1, RET))
+                .main(1, NO_PARAMS, NO, 0, body(65, RET))
+                .main(2, NO_PARAMS, NO, 0, body(length, CALL, 3, RET, POP, RET), new int[] {0, 2, 3, 0})
+                .main(3, NO_PARAMS, NO, 0, body(65, NEW, 0, THROW)).loaded(4, 64, 16, 0);
+            x.begin(0, 0, 0);
+            x.go(1);
+            CHECK.same("none is there", x.cached(0), -1);
+            long before = x.cycles();
+            x.go(1);
+            CHECK.same("RETURN to " + length + " bytes", x.cycles() - before, 4 + 3 + 4 * blocks);
+            ownBlocks(x, 0, blocks);
+            x.begin(2, 0, 0);
+            x.go(2);
+            before = x.cycles();
+            x.go(1);
+            CHECK.same("the HANDLER's TARGET", x.look(4), 3);
+            CHECK.same("HANDLER in " + length + " bytes", x.cycles() - before, 1 + 3 + 2 + 3 + 4 * blocks);
+            ownBlocks(x, 2, blocks);
+        }
+    }
+
+    private static void ownBlocks(ByteProcessor x, int m, int blocks) {
+        for (int i = 0; i < 4; i++) {
+            CHECK.same("block " + i + " of METHOD " + m, x.cached(i), i < blocks ? m : -1);
+        }
+        CHECK.same("NEXT behind METHOD " + m, x.look(12), blocks % 4);
+        CHECK.same("MISSES", x.look(11), 3);
+    }
+
     public static void main(String[] args) {
         instructions();
         jumpsAndCalls();
@@ -491,6 +552,8 @@ public final class CycleTest extends Ops {
         trapFills();
         cache();
         goesRound();
+        lastBlock();
+        missesBehind();
         CHECK.end();
     }
 }

@@ -399,6 +399,47 @@ public final class HeapTest extends Ops {
         CHECK.yes("some are compared", compared > 500);
     }
 
+    /** Only what a field's TYPE says is a REFERENCE: an int that is a HANDLE's number keeps nothing, a ROW's words neither. */
+    private static void wordsOfEachType() {
+        ByteProcessor x = new Images().klass(NO).klass(0, 0).klass(0, 0, 1, 5, 2).klass(2, 0, 1)
+            .main(0, NO_PARAMS, NO, 1, c(
+                NEW, 3, STORE, 0,                                   // 1: of class 3, six words
+                LOAD, 0, PUSH, 7, PUT, 2, 0,                        // its int is 7
+                LOAD, 0, PUSH, 2, ROW, PUT, 2, 1,                   // 2: a ROW
+                LOAD, 0, NEW, 3, PUT, 2, 2,                         // 3: of class 3
+                LOAD, 0, NEW, 0, PUT, 2, 3,                         // 4: no words
+                LOAD, 0, PUSH, 8, PUT, 3, 4,                        // its other int is 8
+                LOAD, 0, PUSH, 1, ROW, PUT, 3, 5,                   // 5: a ROW
+                LOAD, 0, GET, 3, 2, PUSH, 3, ROW, PUT, 3, 5,        // 6: a ROW that 3 has
+                NEW, 1, POP, NEW, 1, POP, NEW, 1, POP,              // 7, 8, 9: nothing has them
+                LOAD, 0, GET, 2, 1, PUSH, 1, PUSH, 9, PUTAT,        // a word of 2 is 9
+                PUSH, 0, POP, JUMP, 78))
+            .loaded(2, 32, 64, 1);
+        x.begin(0, 0, 0);
+        x.go(38);
+        heap(x, "ahead", 6 + 2 + 6 + 0 + 1 + 3 + 3, 0, 0, 9, 0);
+        x.collect();
+        // 1 (1 + 6 steps), then 2, 3, 4 and 5 as its words have them (1 + 2, 1 + 6, 1, 1 + 1), 6, which 3 has (1 + 3), the end.
+        x.go(7 + 3 + 7 + 1 + 2 + 4);
+        colours(x, "all are copied", BLACK, BLACK, BLACK, BLACK, BLACK, BLACK, WHITE, WHITE, WHITE);
+        heap(x, "all are copied", 21, 18, 3, 9, 0);
+        x.go(1);
+        heap(x, "at the end", 18, 0, 0, 6, 1);
+        handle(x, "at the end", 1, 3, 6, 0, 1, BLACK);
+        handle(x, "at the end", 2, -2, 2, 6, 1, BLACK);
+        handle(x, "at the end", 3, 3, 6, 8, 1, BLACK);
+        handle(x, "at the end", 4, 0, 0, 14, 1, BLACK);
+        handle(x, "at the end", 5, -2, 1, 14, 1, BLACK);
+        handle(x, "at the end", 6, -2, 3, 15, 1, BLACK);
+        int[] words = new int[6];
+        for (int i = 0; i < 6; i++) {
+            words[i] = x.word(1, i);
+        }
+        CHECK.all("words of 1", words, 7, 2, 3, 4, 8, 5);
+        CHECK.same("word of 2", x.word(2, 1), 9);
+        CHECK.same("word of 3", x.word(3, 5), 6);
+    }
+
     public static void main(String[] args) {
         handles();
         stepByStep();
@@ -414,6 +455,7 @@ public final class HeapTest extends Ops {
         rowWords();
         sixtyHandles();
         sameOutput();
+        wordsOfEachType();
         CHECK.end();
     }
 }

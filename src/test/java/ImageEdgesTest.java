@@ -321,28 +321,36 @@ public final class ImageEdgesTest extends Ops {
 
     /** "The types on the METHOD's pile (16 at most), the type of each LOCAL": 20 LOCALS and 16 words are all told. */
     private static void fullState() {
-        int[] code = new int[3 * 20 + 16 + 1];
+        int[] code = body(250);
         for (int i = 0; i < 20; i++) {
             code[3 * i] = NULL;
             code[3 * i + 1] = STORE;
             code[3 * i + 2] = i;
         }
         Arrays.fill(code, 60, 76, NULL);
-        code[76] = RET;
+        code[76] = JUMP;
+        code[77] = 249;
         ByteProcessor x = Images.plain().main(0, p(), NO, 20, code).loaded();
         for (int i = 0; i < 20; i++) {
             CHECK.same("LOCAL " + i + " ahead of its STORE", x.type(0, 3 * i + 1, i), -3);
-            CHECK.same("LOCAL " + i + " behind it", x.type(0, 76, i), -2);
         }
-        CHECK.same("words", x.type(0, 76, -1), 16);
+        fullStateAt(x, 76);
+        fullStateAt(x, 249);
+    }
+
+    private static void fullStateAt(ByteProcessor x, int place) {
+        for (int i = 0; i < 20; i++) {
+            CHECK.same("LOCAL " + i + " at " + place, x.type(0, place, i), -2);
+        }
+        CHECK.same("words", x.type(0, place, -1), 16);
         for (int i = 0; i < 16; i++) {
-            CHECK.same("word " + i, x.type(0, 76, 100 + i), -2);
+            CHECK.same("word " + i + " at " + place, x.type(0, place, 100 + i), -2);
         }
-        CHECK.same("LOCAL 20", x.type(0, 76, 20), -1);
-        CHECK.same("word 16", x.type(0, 76, 116), -1);
-        CHECK.same("word -1", x.type(0, 76, 99), -1);
-        CHECK.same("i MAX", x.type(0, 76, MAX), -1);
-        CHECK.same("i MIN", x.type(0, 76, MIN), -1);
+        CHECK.same("LOCAL 20", x.type(0, place, 20), -1);
+        CHECK.same("word 16", x.type(0, place, 116), -1);
+        CHECK.same("word -1", x.type(0, place, 99), -1);
+        CHECK.same("i MAX", x.type(0, place, MAX), -1);
+        CHECK.same("i MIN", x.type(0, place, MIN), -1);
     }
 
     /** "6 the pile would have more than 16": 16 are right, whatever was taken ahead. */
@@ -571,6 +579,56 @@ public final class ImageEdgesTest extends Ops {
         }
     }
 
+    /** Classes one below the other, of one field each but for class 0, with one METHOD of each. */
+    private static Images chain(int classes, int... code) {
+        Images all = new Images().klass(NO);
+        for (int c = 1; c < classes; c++) {
+            all.klass(c - 1, 0);
+        }
+        all.main(0, p(), NO, 1, code);
+        for (int c = 1; c < classes; c++) {
+            all.method(c, c, 0, p(), NO, 1, RETURN);
+        }
+        return all;
+    }
+
+    private static void refusedBehind(ByteProcessor x, int classes, int... code) {
+        CHECK.same("operand " + code[1] + " of " + code[0] + " with " + classes + " classes", chain(classes, code).loadInto(x), 2);
+        CHECK.same("why", x.fault(3), 2);
+    }
+
+    /** A class, field or METHOD behind the last one is none, also where an image ahead had one. */
+    private static void operandsBehindTheLast() {
+        for (int classes : new int[] {2, 5, 15, 16}) {
+            ByteProcessor x = fresh();
+            CHECK.same("the most classes", chain(16, RETURN).loadInto(x), 0);
+            CHECK.same("and again", chain(16, RETURN).loadInto(x), 0);
+            for (int none : new int[] {classes, 16, 254, 255}) {
+                for (int op : new int[] {NEW, CAST, IS}) {
+                    refusedBehind(x, classes, op, none, RET);
+                }
+                for (int op : new int[] {GET, PUT}) {
+                    refusedBehind(x, classes, op, none, 0, RET);
+                    refusedBehind(x, classes, op, classes - 1, none, RET);
+                }
+                refusedBehind(x, classes, CALLV, none, RET);
+                refusedBehind(x, classes, CALLX, none, RET);
+                refusedBehind(x, classes, CALL, none, RET);
+            }
+            int last = classes - 1;
+            CHECK.same("the last ones are there", chain(classes, NEW, last, CAST, last, GET, last, last - 1, POP, NEW, last,
+                CALLV, last, RET).loadInto(x), 0);
+            CHECK.same("no class", x.klass(classes, 0), -1);
+            CHECK.same("no METHOD", x.method(classes, 0), -1);
+            CHECK.same("no field", x.klass(last, 3 + last), -1);
+            CHECK.same("the last field", x.klass(last, 2 + last), 0);
+            CHECK.same("no table", x.table(classes, 1), -1);
+            CHECK.same("none for the NAME", x.table(last, classes), -1);
+            CHECK.same("none for the NAME above", x.table(last - 1, last), -1);
+            CHECK.same("the last METHOD", x.table(last, last), last);
+        }
+    }
+
     private static int run(ByteProcessor x, int m) {
         x.begin(m, 0, 0);
         x.go(100);
@@ -623,6 +681,7 @@ public final class ImageEdgesTest extends Ops {
         placesOfEach();
         manyRefused();
         imageBehindImage();
+        operandsBehindTheLast();
         fullTape();
         fullTapeTooEarly();
         noneComes();

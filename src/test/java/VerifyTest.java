@@ -206,6 +206,44 @@ public final class VerifyTest extends Ops {
         right("52 with more below", NULL, PUSH, 4, RET);
     }
 
+    /** Each value for each TYPE that is wanted: by a CALL, by RETURN and by PUT. */
+    private static void fitsEach() {
+        int[][] values = {{PUSH, 0}, {PUSH, 0, ROW}, {NULL}, {NEW, 0}, {NEW, 1}, {NEW, 2}, {NEW, 3}, {NEW, 4}, {NEW, 5}};
+        // One row for each value: whether it fits INT, ROW, classes 0 to 5.
+        int[][] want = {
+            {1, 0, 0, 0, 0, 0, 0, 0},
+            {0, 1, 0, 0, 0, 0, 0, 0},
+            {0, 1, 1, 1, 1, 1, 1, 1},
+            {0, 0, 1, 0, 0, 0, 0, 0},
+            {0, 0, 1, 1, 0, 0, 0, 0},
+            {0, 0, 1, 0, 1, 0, 0, 0},
+            {0, 0, 1, 0, 1, 1, 0, 0},
+            {0, 0, 1, 0, 1, 1, 1, 0},
+            {0, 0, 1, 0, 1, 0, 0, 1}};
+        for (int v = 0; v < values.length; v++) {
+            for (int type = 0; type < 8; type++) {
+                String what = "value " + v + " for TYPE " + type;
+                fitsOrNot(what + " as a PARAMETER", want[v][type] == 1, type, NO, c(), values[v], c(CALL, 1, RET));
+                fitsOrNot(what + " as a RESULT", want[v][type] == 1, type, type, c(), values[v], c(RETV));
+                fitsOrNot(what + " as a field", want[v][type] == 1, type, NO, c(NEW, 6), values[v], c(PUT, 6, 0, RET));
+            }
+        }
+    }
+
+    private static void fitsOrNot(String what, boolean want, int type, int result, int[] front, int[] value, int[] tail) {
+        int at = front.length + value.length;
+        int[] code = java.util.Arrays.copyOf(front, at + tail.length);
+        System.arraycopy(value, 0, code, front.length, value.length);
+        System.arraycopy(tail, 0, code, at, tail.length);
+        Images i = new Images().klass(NO).klass(0, 0).klass(0).klass(2).klass(3).klass(2).klass(0, type)
+            .main(0, p(), result, 0, code).main(1, p(type), NO, 1, c(RET));
+        if (want) {
+            right(what, i);
+        } else {
+            wrong(what, 5, at, i);
+        }
+    }
+
     private static int[] pushes(int n, int... tail) {
         int[] code = new int[2 * n + tail.length];
         System.arraycopy(tail, 0, code, 2 * n, tail.length);
@@ -354,6 +392,78 @@ public final class VerifyTest extends Ops {
         CHECK.same("each done once", x.method(0, 9), 14);
     }
 
+    /** Below what each INSTRUCTION takes lies a ROW, which stays; its LOCALS are an int, one of class 3, and NOTHING. */
+    private static void gives(String what, int[] front, int[] op, int... want) {
+        int at = 3 + front.length;
+        int[] code = java.util.Arrays.copyOf(c(PUSH, 0, ROW), at + op.length + 1);
+        System.arraycopy(front, 0, code, 3, front.length);
+        System.arraycopy(op, 0, code, at, op.length);
+        int behind = at + op.length;
+        code[behind] = RET;
+        if (op[0] >= IF0 && op[0] < SWITCH) {
+            code[at + 1] = behind;
+        }
+        ByteProcessor x = right(what, around(p(0, 5), NO, 3, code));
+        int[] got = new int[Math.max(0, x.type(0, behind, -1))];
+        for (int i = 0; i < got.length; i++) {
+            got[i] = x.type(0, behind, 100 + i);
+        }
+        CHECK.all(what + " gives", got, want);
+        CHECK.same(what + ": no word behind the last", x.type(0, behind, 100 + got.length), -1);
+        CHECK.same(what + ": LOCAL 0", x.type(0, behind, 0), 0);
+        CHECK.same(what + ": LOCAL 1", x.type(0, behind, 1), 5);
+        CHECK.same(what + ": LOCAL 2", x.type(0, behind, 2), op[0] == STORE ? 6 : -3);
+    }
+
+    private static void statesBehindEach() {
+        gives("PUSH", c(), c(PUSH, 9), 1, 0);
+        gives("PUSH w", c(), c(PUSHW, 9, 9), 1, 0);
+        gives("NULL", c(), c(NULL), 1, -2);
+        gives("LOAD of an int", c(), c(LOAD, 0), 1, 0);
+        gives("LOAD of an object", c(), c(LOAD, 1), 1, 5);
+        gives("STORE", c(NEW, 4), c(STORE, 2), 1);
+        gives("POP", c(NULL, PUSH, 1), c(POP), 1, -2);
+        gives("DUP", c(NEW, 4), c(DUP), 1, 6, 6);
+        gives("SWAP", c(NEW, 4, NULL), c(SWAP), 1, -2, 6);
+        for (int op = ADD; op <= URIGHT; op++) {
+            gives("op " + op, c(PUSH, 1, PUSH, 1), c(op), 1, 0);
+        }
+        for (int op = NEG; op <= TO_SHORT; op++) {
+            gives("op " + op, c(PUSH, 1), c(op), 1, 0);
+        }
+        gives("INC", c(), c(INC, 0, 1), 1);
+        for (int op = IF0; op < IFSAME; op++) {
+            gives("op " + op, c(PUSH, 1), c(op, 0), 1);
+        }
+        for (int op = IFSAME; op < IFNULL; op++) {
+            gives("op " + op, c(PUSH, 1, PUSH, 1), c(op, 0), 1);
+        }
+        gives("JUMP if null", c(NULL), c(IFNULL, 0), 1);
+        gives("JUMP if not null", c(NULL), c(IFNOTNULL, 0), 1);
+        gives("JUMP if the same", c(NULL, NULL), c(IFREF, 0), 1);
+        gives("JUMP if others", c(NULL, NULL), c(IFNOTREF, 0), 1);
+        gives("NEW", c(), c(NEW, 3), 1, 5);
+        gives("ROW", c(PUSH, 1), c(ROW), 1, 1);
+        gives("SIZE", c(NULL), c(SIZE), 1, 0);
+        gives("GET AT", c(NULL, PUSH, 1), c(GETAT), 1, 0);
+        gives("PUT AT", c(NULL, PUSH, 1, PUSH, 1), c(PUTAT), 1);
+        gives("GET an int", c(NEW, 4), c(GET, 4, 0), 1, 0);
+        gives("GET an object", c(NEW, 4), c(GET, 3, 1), 1, 4);
+        gives("GET a ROW", c(NEW, 4), c(GET, 4, 2), 1, 1);
+        gives("PUT", c(NEW, 4, NULL), c(PUT, 4, 2), 1);
+        gives("CALL", c(PUSH, 1, NULL), c(CALL, 1), 1, 1);
+        gives("CALL 50", c(NEW, 4, NULL), c(CALLV, 2), 1, 5);
+        gives("CALL 51", c(NEW, 4, NULL), c(CALLX, 2), 1, 5);
+        gives("CALL 50 without a RESULT", c(NEW, 4), c(CALLV, 3), 1);
+        gives("CALL 51 without a RESULT", c(NULL), c(CALLX, 3), 1);
+        gives("CAST", c(NEW, 2), c(CAST, 4), 1, 6);
+        gives("CAST to a class above", c(NEW, 4), c(CAST, 0), 1, 2);
+        gives("CAST of null", c(NULL), c(CAST, 1), 1, 3);
+        gives("IS", c(NEW, 2), c(IS, 4), 1, 0);
+        gives("IN", c(), c(IN), 1, 0);
+        gives("OUT", c(PUSH, 1), c(OUT), 1);
+    }
+
     /** Local 1 is null at first and of class 2 when the loop comes back; the lowest place is done first. */
     private static void times() {
         ByteProcessor x = right("times", around(p(0), NO, 2, c(
@@ -473,11 +583,13 @@ public final class VerifyTest extends Ops {
         tooFew();
         noFit();
         noFitObjects();
+        fitsEach();
         tooMany();
         fallsOff();
         joins();
         localJoins();
         states();
+        statesBehindEach();
         times();
         handlers();
         laterMethod();
